@@ -1,0 +1,26 @@
+/** Counts and prints the answers that are not as due. */
+final class Checks {
+    private int wrong = 0;
+    private int made = 0;
+
+    void equal(String what, long got, long due) {
+        made++;
+        if (got != due) {
+            wrong++;
+            if (wrong <= 50) {
+                System.out.println(what + " answered " + got + ", due is " + due);
+            }
+        }
+    }
+
+    void that(String what, boolean holds) {
+        equal(what, holds ? 1 : 0, 1);
+    }
+
+    void end() {
+        System.out.println(made + " answers looked at, " + wrong + " not as due");
+        if (wrong > 0 || made == 0) {
+            System.exit(1);
+        }
+    }
+}

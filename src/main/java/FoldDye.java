@@ -293,7 +293,7 @@ public final class FoldDye {
         if (search.leastDiffering(wanted) > 0) {
             return NOT;
         }
-        latest.become(search.nearest);
+        latest.become(search.tried);
         return latest.folds;
     }
 
@@ -312,21 +312,16 @@ public final class FoldDye {
     }
 
     public int count(int what) {
-        if (what == 0) {
-            return woven;
+        if (what < 0 || what > 4) {
+            return NONE;
         }
         if (what == 4) {
             return Integer.bitCount(wanted.darkCells);
         }
-        if (what < 0 || what > 4) {
-            return NONE;
-        }
         int sum = 0;
         for (int i = 0; i < woven; i++) {
             Cloth counted = clothOf(i);
-            if (counted != null) {
-                sum += what == 1 ? counted.cells : what == 2 ? counted.depthInAll() : counted.torn;
-            }
+            sum += counted == null ? 0 : counted.shareOf(what);
         }
         return sum;
     }
@@ -435,7 +430,16 @@ public final class FoldDye {
             return NOT;
         }
 
-        int depthInAll() {
+        int shareOf(int count) {
+            switch (count) {
+                case 0: return 1;
+                case 1: return cells;
+                case 2: return depthInAll();
+                default: return torn;
+            }
+        }
+
+        private int depthInAll() {
             int sum = 0;
             for (int i = 0; i < cells; i++) {
                 sum += depths[i];
@@ -765,18 +769,19 @@ public final class FoldDye {
     }
 
     /**
-     * Goes through the ways in their order, for the first of those that differ least from a wish.
+     * Goes through the ways in their order, up to the first that meets a wish.
      *
      * Two folds of a cloth of at most 4 by 4 put a third cell only into stacks that have a bare side:
-     * so dye meets every cell that is not under the board in the first minute, whatever the bath and
-     * the rules. A way darkens just those; and without a board all, so that folds alone change nothing.
+     * so dye meets every cell that is not under the board in the first minute, whatever the bath, the
+     * rules and the order in the stacks. A way darkens just those cells. Therefore a mountain does as the
+     * valley ahead of it does, and folds without a board do as no folds do: neither is ever the first.
      */
     private static final class Search {
-        private static final int LINES = LONGEST_WISH, HOWS = 2;
-        private static final int FOLD_NUMBERS = (SLANT + 1) * LINES * HOWS;
+        private static final int LINES = LONGEST_WISH;
+        private static final int VALLEYS = (SLANT + 1) * LINES;
 
-        final Way nearest = new Way();
-        private final Way tried = new Way();
+        /** When the least differing is 0, the way that meets the wish: the search stops at it. */
+        final Way tried = new Way();
         private final Bundle flat = new Bundle(LONGEST_WISH, LONGEST_WISH);
         private final Bundle once = new Bundle(LONGEST_WISH, LONGEST_WISH);
         private final Bundle twice = new Bundle(LONGEST_WISH, LONGEST_WISH);
@@ -790,9 +795,8 @@ public final class FoldDye {
             flat.spread(wish.rows, wish.columns);
             allCells = (1 << flat.cells) - 1;
             darkCells = wish.darkCells;
-            least = flat.cells + 1;
             tried.clear();
-            compare(0);
+            least = differingUnder(0);
             tryBoards(flat);
             tryFolds(1);
             tryFolds(2);
@@ -800,7 +804,7 @@ public final class FoldDye {
         }
 
         private void tryFolds(int folds) {
-            for (int first = 0; first < FOLD_NUMBERS && least > 0; first++) {
+            for (int first = 0; first < VALLEYS && least > 0; first++) {
                 if (!foldInto(once, flat, 0, first)) {
                     continue;
                 }
@@ -808,7 +812,7 @@ public final class FoldDye {
                     tryBoards(once);
                     continue;
                 }
-                for (int second = 0; second < FOLD_NUMBERS && least > 0; second++) {
+                for (int second = 0; second < VALLEYS && least > 0; second++) {
                     if (foldInto(twice, once, 1, second)) {
                         tryBoards(twice);
                     }
@@ -816,17 +820,16 @@ public final class FoldDye {
             }
         }
 
-        /** Folds are numbered in their order: by kind, then line, then how. */
-        private boolean foldInto(Bundle folded, Bundle from, int i, int number) {
-            int kind = number / (LINES * HOWS);
-            int line = number / HOWS % LINES;
-            int how = number % HOWS;
+        /** Valleys are numbered in their order: by kind, then line. */
+        private boolean foldInto(Bundle folded, Bundle from, int i, int valley) {
+            int kind = valley / LINES;
+            int line = valley % LINES;
             if (!from.hasLine(kind, line) || kind == SLANT && !from.canSlant()) {
                 return false;
             }
             folded.become(from);
-            folded.crease(kind, line, how);
-            tried.setFold(i, kind, line, how);
+            folded.crease(kind, line, VALLEY);
+            tried.setFold(i, kind, line, VALLEY);
             return true;
         }
 
@@ -855,22 +858,16 @@ public final class FoldDye {
                 int shut = 0;
                 for (int right = left; right < columns && least > 0; right++) {
                     shut |= cellsOfColumn[right];
-                    if (compare(shut)) {
-                        nearest.setBoard(top, bottom, left, right);
+                    least = Math.min(least, differingUnder(shut));
+                    if (least == 0) {
+                        tried.setBoard(top, bottom, left, right);
                     }
                 }
             }
         }
 
-        /** Keeps what is tried, still without its board, if no way ahead of it came as near. */
-        private boolean compare(int shut) {
-            int differing = Integer.bitCount(allCells & ~shut ^ darkCells);
-            if (differing >= least) {
-                return false;
-            }
-            least = differing;
-            nearest.become(tried);
-            return true;
+        private int differingUnder(int shut) {
+            return Integer.bitCount(allCells & ~shut ^ darkCells);
         }
     }
 }

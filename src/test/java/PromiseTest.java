@@ -380,6 +380,16 @@ public final class PromiseTest {
         }
     }
 
+    private static void promises12And13OfTheGreatestCloth() {
+        FoldDye x = withCloth(12, 12);
+        due("the last cell", x.reach(0, 143), 1);
+        due("every cell", x.bath(0, 1, 1), 144);
+        due("a board on all of it", x.board(0, 11, 11), 1);
+        due("the last cell, shut", x.reach(0, 143), FoldDye.NEVER);
+        due("no cell", x.bath(0, 99, 15), 0);
+        due("the last place", x.stack(0, 24 * 11 + 11, 0), 143);
+    }
+
     private static void promise13Bath() {
         FoldDye x = withThickBundle();
         x.board(0, 0, 25);
@@ -698,6 +708,7 @@ public final class PromiseTest {
         promises7to9StackPlaceHigh();
         promises10And11Boards();
         promise12Reach();
+        promises12And13OfTheGreatestCloth();
         promise13Bath();
         promise13And14Wrong();
         promise14Discharge();

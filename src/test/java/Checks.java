@@ -4,17 +4,17 @@ final class Checks {
     private int made = 0;
 
     void equal(String what, long got, long due) {
-        made++;
-        if (got != due) {
-            wrong++;
-            if (wrong <= 50) {
-                System.out.println(what + " answered " + got + ", due is " + due);
-            }
-        }
+        that(got == due ? what : what + " answered " + got + ", due is " + due, got == due);
     }
 
     void that(String what, boolean holds) {
-        equal(what, holds ? 1 : 0, 1);
+        made++;
+        if (!holds) {
+            wrong++;
+            if (wrong <= 50) {
+                System.out.println("not so: " + what);
+            }
+        }
     }
 
     void end() {

@@ -52,36 +52,15 @@ final class Call {
         return answer >= 0 ? -1 - answer : Integer.parseInt(word);
     }
 
-    int on(FoldDye x) {
-        int[] n = Arrays.copyOf(numbers, 4);
-        return switch (name + " " + numbers.length) {
-            case "cloth 2" -> x.cloth(n[0], n[1]);
-            case "rule 2" -> x.rule(n[0], n[1]);
-            case "fold 4" -> x.fold(n[0], n[1], n[2], n[3]);
-            case "open 1" -> x.open(n[0]);
-            case "about 2" -> x.about(n[0], n[1]);
-            case "stack 3" -> x.stack(n[0], n[1], n[2]);
-            case "place 2" -> x.place(n[0], n[1]);
-            case "high 2" -> x.high(n[0], n[1]);
-            case "board 3" -> x.board(n[0], n[1], n[2]);
-            case "off 1" -> x.off(n[0]);
-            case "reach 2" -> x.reach(n[0], n[1]);
-            case "bath 3" -> x.bath(n[0], n[1], n[2]);
-            case "discharge 3" -> x.discharge(n[0], n[1], n[2]);
-            case "dry 1" -> x.dry(n[0]);
-            case "depth 2" -> x.depth(n[0], n[1]);
-            case "mirrored 2" -> x.mirrored(n[0], n[1]);
-            case "period 2" -> x.period(n[0], n[1]);
-            case "steps 2" -> x.steps(n[0], n[1]);
-            case "alike 3" -> x.alike(n[0], n[1], n[2]);
-            case "wish 2" -> x.wish(n[0], n[1]);
-            case "dark 2" -> x.dark(n[0], n[1]);
-            case "way 2" -> x.way(n[0], n[1]);
-            case "nearly 2" -> x.nearly(n[0], n[1]);
-            case "told 2" -> x.told(n[0], n[1]);
-            case "count 1" -> x.count(n[0]);
-            default -> throw new IllegalArgumentException("no such call: " + this);
-        };
+    /** Of a FoldDye or of the Model, which has calls of the same names. */
+    int on(Object x) {
+        Class<?>[] types = new Class<?>[numbers.length];
+        Arrays.fill(types, int.class);
+        try {
+            return (Integer) x.getClass().getDeclaredMethod(name, types).invoke(x, Arrays.stream(numbers).boxed().toArray());
+        } catch (ReflectiveOperationException e) {
+            throw new IllegalStateException(this + " can not be made, or threw", e);
+        }
     }
 
     boolean isAnsweredBy(int answer) {

@@ -17,9 +17,9 @@ final class Document {
         text = Files.readString(PAGE).replaceAll("\\s+", " ");
     }
 
-    /** A sentence of the Terms. */
+    /** A sentence ahead of the promises: most are of the Terms. */
     Run says(String sentence) {
-        checks.that("the document says: " + sentence, partOf("## Terms", "## Promise 1:").contains(sentence));
+        checks.that("the document says: " + sentence, partOf("# FoldDye", "## Promise 1:").contains(sentence));
         return new Run(checks, sentence);
     }
 

@@ -1,3 +1,5 @@
+import java.util.ArrayList;
+import java.util.List;
 import java.util.Random;
 
 /** Long runs of calls, of every kind and with wrong numbers too, against the Model. */
@@ -5,11 +7,17 @@ public final class ModelTest {
     private static final Checks CHECKS = new Checks();
     private static final int[] ODD = {Integer.MIN_VALUE, -25, -2, -1, 0, 1, 24, 143, 144, 600, Integer.MAX_VALUE};
 
+    private static final List<String> ASKING = List.of("about", "stack", "place", "high", "depth", "mirrored", "period",
+        "steps", "told", "count");
+    private static final int MOST_CALLS = 512;
+    /** A wish takes up to ten calls at once, and each look asks in what is left of the 512 again and again. */
+    private static final int ROOM_TO_ASK = 112;
+
     private final Random dice;
     private final FoldDye x = new FoldDye();
     private final Model m = new Model();
     private final int run;
-    private int calls = 0;
+    private final List<Call> made = new ArrayList<>();
 
     private ModelTest(int run) {
         this.run = run;
@@ -41,9 +49,11 @@ public final class ModelTest {
         return first * 24 + some(Math.max(0, Math.min(first, length - 1)), length - 1);
     }
 
-    private void due(String call, int got, int due) {
-        calls++;
-        CHECKS.equal("run " + run + " call " + calls + " " + call, got, due);
+    /** A call of both: the model's answer is due. */
+    private void both(String text) {
+        Call call = Call.of(text);
+        made.add(call);
+        CHECKS.equal("run " + run + " call " + made.size() + " " + call, call.on(x), call.on(m));
     }
 
     private void aFold() {
@@ -53,7 +63,7 @@ public final class ModelTest {
         int rows = cloth == null ? 3 : cloth.bundle.rows, columns = cloth == null ? 3 : cloth.bundle.columns;
         int line = kind == 2 ? some(0, 0) : some(1, Math.max(1, (kind == 0 ? columns : rows) - 1));
         int how = some(0, 1);
-        due("fold(" + c + ", " + kind + ", " + line + ", " + how + ")", x.fold(c, kind, line, how), m.fold(c, kind, line, how));
+        both("fold " + c + " " + kind + " " + line + " " + how);
     }
 
     private void aBoard() {
@@ -61,13 +71,13 @@ public final class ModelTest {
         Model.Cloth cloth = m.get(c);
         int rows = span(cloth == null ? 3 : cloth.bundle.rows);
         int columns = span(cloth == null ? 3 : cloth.bundle.columns);
-        due("board(" + c + ", " + rows + ", " + columns + ")", x.board(c, rows, columns), m.board(c, rows, columns));
+        both("board " + c + " " + rows + " " + columns);
     }
 
     private void aWish() {
         int most = dice.nextInt(8) == 0 ? 4 : 3;
         int rows = some(1, most), columns = some(1, most);
-        due("wish(" + rows + ", " + columns + ")", x.wish(rows, columns), m.wish(rows, columns));
+        both("wish " + rows + " " + columns);
         for (int i = dice.nextInt(9); i > 0; i--) {
             aDark();
         }
@@ -76,66 +86,52 @@ public final class ModelTest {
     private void aDark() {
         int cell = m.wish == null ? some(0, 40) : 12 * some(0, m.wish.rows - 1) + some(0, m.wish.columns - 1);
         int is = some(0, 1);
-        due("dark(" + cell + ", " + is + ")", x.dark(cell, is), m.dark(cell, is));
+        both("dark " + cell + " " + is);
     }
 
     private void aSearch() {
-        int minutes = some(1, 99), strength = some(1, 15);
-        if (dice.nextBoolean()) {
-            due("way(" + minutes + ", " + strength + ")", x.way(minutes, strength), m.way(minutes, strength));
-            for (int i = -1; i <= 3; i++) {
-                for (int what = -1; what <= 4; what++) {
-                    CHECKS.equal("run " + run + " told(" + i + ", " + what + ")", x.told(i, what), m.told(i, what));
-                }
-            }
-        } else {
-            due("nearly(" + minutes + ", " + strength + ")", x.nearly(minutes, strength), m.nearly(minutes, strength));
-        }
+        both((dice.nextBoolean() ? "way " : "nearly ") + some(1, 99) + " " + some(1, 15));
+        both("told " + some(0, 2) + " " + some(0, 3));
     }
 
     private void aCellCall() {
-        int c = clothNumber(), cell = cellOf(c), other = cellOf(c);
-        String in = "(" + c + ", " + cell + ")";
+        int c = clothNumber();
+        String cell = c + " " + cellOf(c);
         switch (dice.nextInt(5)) {
-            case 0 -> due("place" + in, x.place(c, cell), m.place(c, cell));
-            case 1 -> due("high" + in, x.high(c, cell), m.high(c, cell));
-            case 2 -> due("reach" + in, x.reach(c, cell), m.reach(c, cell));
-            case 3 -> due("depth" + in, x.depth(c, cell), m.depth(c, cell));
-            default -> due("alike" + in + " " + other, x.alike(c, cell, other), m.alike(c, cell, other));
+            case 0 -> both("place " + cell);
+            case 1 -> both("high " + cell);
+            case 2 -> both("reach " + cell);
+            case 3 -> both("depth " + cell);
+            default -> both("alike " + cell + " " + cellOf(c));
         }
     }
 
     private void aClothCall() {
-        int c = clothNumber(), n = some(0, 9);
+        int c = clothNumber();
         switch (dice.nextInt(10)) {
-            case 0 -> due("open " + c, x.open(c), m.open(c));
-            case 1 -> due("off " + c, x.off(c), m.off(c));
-            case 2 -> due("dry " + c, x.dry(c), m.dry(c));
-            case 3 -> due("mirrored " + c + " " + n % 4, x.mirrored(c, n % 4), m.mirrored(c, n % 4));
-            case 4 -> due("period " + c + " " + n % 2, x.period(c, n % 2), m.period(c, n % 2));
-            case 5 -> due("steps " + c + " " + n, x.steps(c, n), m.steps(c, n));
-            case 6, 7 -> due("about " + c + " " + n, x.about(c, n), m.about(c, n));
-            default -> due("stack", x.stack(c, n * 24 + n / 2, n / 3), m.stack(c, n * 24 + n / 2, n / 3));
+            case 0 -> both("open " + c);
+            case 1 -> both("off " + c);
+            case 2 -> both("dry " + c);
+            case 3 -> both("mirrored " + c + " " + some(0, 3));
+            case 4 -> both("period " + c + " " + some(0, 1));
+            case 5 -> both("steps " + c + " " + clothNumber());
+            case 6, 7 -> both("about " + c + " " + some(0, 9));
+            default -> both("stack " + c + " " + (24 * some(0, 4) + some(0, 4)) + " " + some(0, 3));
         }
     }
 
     private void aBath() {
-        int c = clothNumber(), minutes = some(1, dice.nextBoolean() ? 9 : 99), strength = some(1, 15);
-        if (dice.nextInt(3) > 0) {
-            due("bath " + c + " " + minutes + " " + strength, x.bath(c, minutes, strength), m.bath(c, minutes, strength));
-        } else {
-            due("discharge " + c + " " + minutes + " " + strength,
-                x.discharge(c, minutes, strength), m.discharge(c, minutes, strength));
-        }
+        String dip = dice.nextInt(3) > 0 ? "bath " : "discharge ";
+        both(dip + clothNumber() + " " + some(1, dice.nextBoolean() ? 9 : 99) + " " + some(1, 15));
     }
 
     private void anyCall() {
         int die = dice.nextInt(100);
-        int a = some(1, 12), b = some(1, 12), what = some(0, 4), v = some(1, 9);
         if (m.cloths.isEmpty() || die < 3) {
-            due("cloth " + a + " " + b, x.cloth(a, b), m.cloth(a, b));
+            both("cloth " + some(1, 12) + " " + some(1, 12));
         } else if (die < 6) {
-            due("rule " + what + " " + v, x.rule(what, v), m.rule(what, v));
+            int what = some(0, 2);
+            both("rule " + what + " " + some(1, what == 2 ? 20 : 9));
         } else if (die < 34) {
             aFold();
         } else if (die < 40) {
@@ -153,48 +149,40 @@ public final class ModelTest {
         } else if (die < 98) {
             aSearch();
         } else {
-            due("count " + what, x.count(what), m.count(what));
+            both("count " + some(0, 4));
         }
     }
 
-    /** Looks at every cell and every fact of every cloth. */
+    /** All that can be asked of the object, but for what only a change tells: the calls behind it have told that. */
     private void wholeState() {
-        for (int c = 0; c < m.cloths.size(); c++) {
-            for (int what = 0; what < 10; what++) {
-                CHECKS.equal("run " + run + " about(" + c + ", " + what + ")", x.about(c, what), m.about(c, what));
-            }
-            int[] reach = m.reaches(m.get(c));
-            for (int cell : m.get(c).cells()) {
-                String in = "(" + c + ", " + cell + ") after call " + calls + " of run " + run;
-                CHECKS.equal("place" + in, x.place(c, cell), m.place(c, cell));
-                CHECKS.equal("high" + in, x.high(c, cell), m.high(c, cell));
-                CHECKS.equal("depth" + in, x.depth(c, cell), m.depth(c, cell));
-                CHECKS.equal("reach" + in, x.reach(c, cell), reach[cell]);
-                CHECKS.equal("stack" + in, x.stack(c, m.place(c, cell), m.high(c, cell)), cell);
-            }
-            for (int kind = 0; kind < 4; kind++) {
-                CHECKS.equal("run " + run + " mirrored", x.mirrored(c, kind), m.mirrored(c, kind));
-            }
+        int[][] reaches = new int[m.cloths.size()][];
+        for (int c = 0; c < reaches.length; c++) {
+            reaches[c] = m.reaches(m.get(c));
         }
-        for (int what = 0; what < 5; what++) {
-            CHECKS.equal("run " + run + " count " + what, x.count(what), m.count(what));
-        }
+        Look.after(made).forEach((text, shown) -> {
+            String[] words = text.split(" ");
+            String in = "run " + run + " after call " + made.size() + " " + text;
+            if (words[0].equals("reach")) {
+                CHECKS.equal(in, shown, reaches[Integer.parseInt(words[1])][Integer.parseInt(words[2])]);
+            } else if (ASKING.contains(words[0])) {
+                CHECKS.equal(in, shown, Call.of(text).on(m));
+            }
+        });
     }
 
-    private void runAll() {
-        while (calls < 500) {
-            anyCall();
-            if (calls % 41 == 0) {
-                wholeState();
+    private void calls(int most, int looks) {
+        for (int i = 1; i <= looks; i++) {
+            while (made.size() < most * i / looks) {
+                anyCall();
             }
+            wholeState();
         }
-        wholeState();
     }
 
     public static void main(String[] args) {
         int runs = args.length > 0 ? Integer.parseInt(args[0]) : 150;
         for (int run = 1; run <= runs; run++) {
-            new ModelTest(run).runAll();
+            new ModelTest(run).calls(MOST_CALLS - ROOM_TO_ASK, 6);
         }
         CHECKS.end();
     }

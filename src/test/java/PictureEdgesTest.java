@@ -187,6 +187,11 @@ public final class PictureEdgesTest {
         firstWay(sentence, ". # # .", 1, "1 2 0 NONE " + ALL_NONE + " 0 0 0 0");
         firstWay(sentence, "#. .#", 1, "2 0 0 NONE " + ALL_NONE + " 1 1 0 0");
         firstWay(sentence, ".##. #### #### .##.", 2, "0 2 0 NONE 1 2 0 NONE 0 0 0 0");
+        firstWay(sentence, "..# ##.", 2, "0 1 0 NONE 2 0 0 NONE 1 1 0 0");
+        firstWay(sentence, "#.. .##", 2, "0 2 0 NONE 2 0 0 NONE 1 1 0 0");
+        firstWay(sentence, ".# .# #.", 2, "1 1 0 NONE 2 0 0 NONE 1 1 0 0");
+        firstWay(sentence, "###. #### #### .##.", 2, "2 0 0 NONE 0 2 0 NONE 3 3 0 0");
+        firstWay(sentence, ".##. #### #### .###", 2, "2 0 0 NONE 1 2 0 NONE 0 0 0 0");
         sentence = "BOARDS in order: by first row, last row, first column, last column.";
         firstWay(sentence, "#.# ..# ###", 1, "2 0 0 NONE " + ALL_NONE + " 1 1 0 1");
         firstWay(sentence, "### #.. #.#", 1, "2 0 0 NONE " + ALL_NONE + " 0 2 1 1");
@@ -200,6 +205,10 @@ public final class PictureEdgesTest {
             .does("told 0 0 = NONE; told 2 0 = NONE; dark 0 1 = 0; way 1 1 = 0; told 2 2 = 2");
         document.says("FOLDS f1, f2 (0, 1 or 2 of them), then no BOARD or one")
             .does(wish("#..# .##. .##. #..#")).refuses("way 1 1 = NOT");
+        String sentence = "FOLDS in order: kind, then line, then VALLEY ahead of MOUNTAIN (just those that can be made).";
+        document.says(sentence).does(wish("#. .#") + "way 1 1 = 1; told 0 0 = 2");
+        document.says(sentence).does(wish("#.# .##")).refuses("way 1 1 = NOT").does("nearly 1 1 = 1");
+        document.says(sentence).does(wish("#. .# ##")).refuses("way 1 1 = NOT").does("nearly 1 1 = 1");
         document.says("(LAYER, SIDE, FADE as they are, not SOAKED)")
             .does("rule 0 9 = 3; rule 1 9 = 2; rule 2 1 = 8; cloth 4 4 = 0; bath 0 1 1 = 16; board 0 0 0 = 1")
             .does(wish(".##. #### #### .##.") + "way 1 1 = 2; nearly 1 1 = 0; about 0 6 = 1; about 0 8 = 1; about 0 2 = 0; count 2 = 16");

@@ -1,6 +1,6 @@
 import java.io.IOException;
 
-/** Which answer comes first, that a refused call changes nothing, and wrong numbers of every call. */
+/** Which answer comes first, that a refused call changes nothing, wrong numbers of every call, and the last call. */
 public final class RefusalTest {
     private static final Checks CHECKS = new Checks();
     private static Document document;
@@ -144,6 +144,15 @@ public final class RefusalTest {
         run.asks("period 0 0; steps 0 1; steps 0 0; alike 1 0 4; nearly 1 1; told 2 0; count 2; rule 0 4; off 0; dry 0; open 0; dark 0 0");
     }
 
+    /** The last of the 512 calls is answered as the first ones are. */
+    private static void theLastCall() {
+        Run run = document.says("An object is used for at most 512 calls after it has been made").does("cloth 12 12 = 0");
+        for (int i = 0; i < 102; i++) {
+            run.does("fold 0 0 6 0 = 1; bath 0 1 15 = 144; discharge 0 1 15 = 144; dry 0 = 1; open 0 = 1");
+        }
+        run.does("count 1 = 144");
+    }
+
     public static void main(String[] args) throws IOException {
         document = new Document(CHECKS);
         noSuchCloth();
@@ -154,6 +163,7 @@ public final class RefusalTest {
         theOtherCalls();
         wrongBathsAndRules();
         asking();
+        theLastCall();
         CHECKS.end();
     }
 }

@@ -197,6 +197,22 @@ public final class PictureEdgesTest {
         firstWay(sentence, "### #.. #.#", 1, "2 0 0 NONE " + ALL_NONE + " 0 2 1 1");
     }
 
+    /** What an earlier wish has left behind tells on no later one, greater or smaller. */
+    private static void wishAfterWish() {
+        String[][] wishes = {{"###. #### #### .##.", "2", "2 0 0 NONE 0 2 0 NONE 3 3 0 0"}, {"..# ##.", "2", "0 1 0 NONE 2 0 0 NONE 1 1 0 0"},
+            {".# .# #.", "2", "1 1 0 NONE 2 0 0 NONE 1 1 0 0"}, {".##.", "1", "0 2 0 NONE " + ALL_NONE + " 0 0 0 0"},
+            {"#. .#", "1", "2 0 0 NONE " + ALL_NONE + " 1 1 0 0"}, {"#", "0", NOTHING}};
+        for (String[] first : wishes) {
+            for (String[] second : wishes) {
+                Run run = document.promises(21, "THE WISH is of a small CLOTH, no CELL DARK: 1.");
+                run.does(wish(first[0]) + "way 1 1 = " + first[1] + ";" + wish(second[0]) + "nearly 1 1 = 0; way 1 1 = " + second[1]);
+                toldIs(run, second[2]).does(wish(".#.") + "way 1 1 = NOT; nearly 1 1 = 1");
+                toldIs(run, second[2]).does(wish("#.# .##") + "way 1 1 = NOT; nearly 1 1 = 1");
+                toldIs(run, second[2]);
+            }
+        }
+    }
+
     private static void noWay() {
         document.promises(23, "how many FOLDS it has; NOT. NONE: no WISH, too.")
             .refuses("way 1 1 = NONE; way 99 15 = NONE; way 0 0 = NONE").does("wish 1 3 = 1; dark 1 1 = 0")
@@ -269,6 +285,7 @@ public final class PictureEdgesTest {
         wishes();
         darkCells();
         firstWays();
+        wishAfterWish();
         noWay();
         nearly();
         told();

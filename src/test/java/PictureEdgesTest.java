@@ -172,7 +172,33 @@ public final class PictureEdgesTest {
         for (String bath : new String[] {"1 1", "1 15", "99 1", "99 15"}) {
             Run run = document.says(sentence).does(wish(rows) + "way " + bath + " = " + folds + "; nearly " + bath + " = 0");
             toldIs(run, facts).does("count 0 = 0; count 1 = 0");
+            followTheWay(rows, folds, bath);
         }
+    }
+
+    /** What told() tells, done to a real cloth: the cells that shall be dark have the bath's strength, the others none. */
+    private static void followTheWay(String rows, int folds, String bath) {
+        String[] lines = rows.split(" ");
+        Run run = document.says("It MEETS the WISH if just the CELLS that shall be are DARK.");
+        run.does(wish(rows) + "way " + bath + "; cloth " + lines.length + " " + lines[0].length() + " = 0");
+        for (int i = 0; i < folds; i++) {
+            run.does("fold 0 " + told(run, i, 0) + " " + told(run, i, 1) + " " + told(run, i, 2) + " = " + (i + 1));
+        }
+        if (told(run, 2, 0) != FoldDye.NONE) {
+            run.does("board 0 " + (24 * told(run, 2, 0) + told(run, 2, 1)) + " " + (24 * told(run, 2, 2) + told(run, 2, 3)) + " = 1");
+        }
+        run.does("bath 0 " + bath);
+        String strength = bath.split(" ")[1];
+        for (int row = 0; row < lines.length; row++) {
+            for (int column = 0; column < lines[row].length(); column++) {
+                boolean dark = lines[row].charAt(column) == '#';
+                run.does("depth 0 " + (12 * row + column) + " = " + (dark ? strength : "0"));
+            }
+        }
+    }
+
+    private static int told(Run run, int i, int what) {
+        return run.answerOf("told " + i + " " + what);
     }
 
     private static void firstWays() {
@@ -242,7 +268,7 @@ public final class PictureEdgesTest {
         document.says(sentence).does(wish(".##.") + "way 1 1 = 1; dark 0 1 = 0").asks("nearly 1 1 = 0; nearly 100 1 = NONE; nearly 1 0 = NONE");
     }
 
-    private static void told() {
+    private static void toldOfTheLatest() {
         String sentence = "Of the latest way() that found one: FOLD i (0, 1) what 0 kind, 1 line, 2 how; "
             + "of the BOARD (i 2): 0 to 3 first row, last row, first column, last column.";
         Run run = document.promises(25, sentence);
@@ -288,7 +314,7 @@ public final class PictureEdgesTest {
         wishAfterWish();
         noWay();
         nearly();
-        told();
+        toldOfTheLatest();
         count();
         document.quotesAll(17, 26);
         CHECKS.end();

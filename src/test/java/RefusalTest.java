@@ -144,6 +144,13 @@ public final class RefusalTest {
         run.asks("period 0 0; steps 0 1; steps 0 0; alike 1 0 4; nearly 1 1; told 2 0; count 2; rule 0 4; off 0; dry 0; open 0; dark 0 0");
     }
 
+    private static void twoObjects() {
+        Run one = document.says("All memory is the class's own.").does(sixCloths());
+        Run other = document.says("All memory is the class's own.").does("count 0 = 0; rule 0 3 = 3; dark 0 1 = NONE; told 2 0 = NONE");
+        other.does("cloth 3 3 = 0; depth 0 0 = 0; wish 4 4 = 1; fold 0 2 0 0 = 1; board 0 2 2 = 1; bath 0 1 1 = 0");
+        one.does("count 0 = 6; rule 0 4 = 4; about 0 2 = 0; about 0 8 = 0; about 0 6 = 0; depth 0 0 = 3; count 4 = 2; told 2 0 = 0");
+    }
+
     /** The last of the 512 calls is answered as the first ones are. */
     private static void theLastCall() {
         Run run = document.says("An object is used for at most 512 calls after it has been made").does("cloth 12 12 = 0");
@@ -163,6 +170,7 @@ public final class RefusalTest {
         theOtherCalls();
         wrongBathsAndRules();
         asking();
+        twoObjects();
         theLastCall();
         CHECKS.end();
     }

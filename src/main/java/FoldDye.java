@@ -266,6 +266,8 @@ public final class FoldDye {
         return reachOf(asked, first) == reachOf(asked, second) ? 1 : 0;
     }
 
+    // ---- wishes
+
     public int wish(int rows, int columns) {
         if (rows < 1 || rows > LONGEST_WISH || columns < 1 || columns > LONGEST_WISH) {
             return NONE;

@@ -1,8 +1,5 @@
-import java.io.IOException;
-
-/** Which answer comes first, that a refused call changes nothing, wrong numbers of every call, and the last call. */
-public final class RefusalTest {
-    private static final Checks CHECKS = new Checks();
+/** Which answer comes first, that a refused call changes nothing, wrong numbers of every call. */
+final class Refusals {
     private static Document document;
 
     private static final String FIRST = "Answers, the first that a call names";
@@ -151,17 +148,8 @@ public final class RefusalTest {
         one.does("count 0 = 6; rule 0 4 = 4; about 0 2 = 0; about 0 8 = 0; about 0 6 = 0; depth 0 0 = 3; count 4 = 2; told 2 0 = 0");
     }
 
-    /** The last of the 512 calls is answered as the first ones are. */
-    private static void theLastCall() {
-        Run run = document.says("An object is used for at most 512 calls after it has been made").does("cloth 12 12 = 0");
-        for (int i = 0; i < 102; i++) {
-            run.does("fold 0 0 6 0 = 1; bath 0 1 15 = 144; discharge 0 1 15 = 144; dry 0 = 1; open 0 = 1");
-        }
-        run.does("count 1 = 144");
-    }
-
-    public static void main(String[] args) throws IOException {
-        document = new Document(CHECKS);
+    static void all(Document quoted) {
+        document = quoted;
         noSuchCloth();
         numbersThatAreNeverRight();
         refusedFoldsByLine();
@@ -171,7 +159,5 @@ public final class RefusalTest {
         wrongBathsAndRules();
         asking();
         twoObjects();
-        theLastCall();
-        CHECKS.end();
     }
 }

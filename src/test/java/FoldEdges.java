@@ -1,8 +1,5 @@
-import java.io.IOException;
-
 /** The edges of cloths, folds and stacks (promises 1, 2 and 4 to 9), sentence by sentence. */
-public final class FoldEdgesTest {
-    private static final Checks CHECKS = new Checks();
+final class FoldEdges {
     private static Document document;
 
     private static void aNewObject() {
@@ -11,6 +8,12 @@ public final class FoldEdgesTest {
             .refuses("about 0 0 = NONE; told 0 0 = NONE; told 2 0 = NONE")
             .refuses("dark 0 1 = NONE; way 1 1 = NONE; nearly 1 1 = NONE")
             .does("cloth 1 1 = 0; count 0 = 1");
+    }
+
+    private static void numbersOfCloths() {
+        document.says("A CLOTH (0 ..").does("about 0 0 = NONE; cloth 1 2 = 0; about 0 1 = 2; about 1 0 = NONE")
+            .does("cloth 1 3 = 1; cloth 1 4 = 2; cloth 1 5 = 3; cloth 1 6 = 4; about 5 0 = NONE; cloth 1 7 = 5")
+            .does("about 0 1 = 2; about 1 1 = 3; about 2 1 = 4; about 3 1 = 5; about 4 1 = 6; about 5 1 = 7; about 6 0 = NONE");
     }
 
     private static void sixCloths() {
@@ -25,7 +28,7 @@ public final class FoldEdgesTest {
     }
 
     private static void aSeventhCloth() {
-        Run run = document.promises(2, "its number. NONE, FULL.");
+        Run run = document.promises(2, "A CLOTH is woven: its number. NONE, FULL.");
         run.does("cloth 12 12 = 0; cloth 1 1 = 1; cloth 1 12 = 2; cloth 12 1 = 3; cloth 2 2 = 4");
         run.within("cloth _ 1", 1, 12).within("cloth 1 _", 1, 12);
         run.does("cloth 3 4 = 5");
@@ -59,14 +62,14 @@ public final class FoldEdgesTest {
     }
 
     private static void emptyPlaces() {
-        document.says("at each a STACK of CELLS, the lowest first (perhaps none)")
+        document.says("Folded it is a BUNDLE: PLACES in rows and columns, at each a STACK of CELLS, the lowest first (perhaps none).")
             .does("cloth 3 3 = 0; fold 0 2 0 0 = 1; about 0 9 = 6; about 0 3 = 3; about 0 4 = 3")
             .stackIs(1).stackIs(2).stackIs(26)
             .does("stack 0 3 0 = NONE; stack 0 27 0 = NONE; stack 0 72 0 = NONE");
     }
 
     private static void linesOfColumns() {
-        Run run = document.says("kind 0 at line x (1 .. columns of the BUNDLE - 1)").does("cloth 3 12 = 0");
+        Run run = document.says("FOLDS, by numbers: kind 0 at line x (1 .. columns of the BUNDLE - 1)").does("cloth 3 12 = 0");
         run.within("fold 0 0 _ 0", 1, 11).does("fold 0 0 8 0 = 1; about 0 4 = 8");
         run.within("fold 0 0 _ 1", 1, 7).does("fold 0 0 4 0 = 2; about 0 4 = 4");
         run.within("fold 0 0 _ 0", 1, 3).does("fold 0 0 2 1 = 3; about 0 4 = 2");
@@ -81,6 +84,79 @@ public final class FoldEdgesTest {
         run.within("fold 0 1 _ 0", 1, 3).does("fold 0 1 2 1 = 3; about 0 3 = 2");
         run.within("fold 0 1 _ 1", 1, 1).does("fold 0 1 1 0 = 4; about 0 3 = 1");
         run.refuses("fold 0 1 0 0 = NONE; fold 0 1 1 0 = NONE; fold 0 1 -1 0 = NONE; fold 0 1 MIN 0 = NONE");
+    }
+
+    /** Every line of a cloth of two rows (columns): where each column (row) comes, and onto which. */
+    private static void everyLine() {
+        for (int length : new int[] {2, 5, 12}) {
+            for (int line = 1; line < length; line++) {
+                for (int how = 0; how <= 1; how++) {
+                    Run columns = document.says("the PLACES of columns x and more come onto those ahead: column x + i onto column x - 1 - i")
+                        .does("cloth 2 " + length + " = 0; fold 0 0 " + line + " " + how + " = 1");
+                    Run rows = document.says("kind 1 at line y: likewise rows.")
+                        .does("cloth " + length + " 2 = 0; fold 0 1 " + line + " " + how + " = 1");
+                    everyColumnOrRow(columns, rows, length, line, how);
+                }
+            }
+        }
+    }
+
+    private static void everyColumnOrRow(Run columns, Run rows, int length, int line, int how) {
+        int wider = Math.max(0, length - 2 * line);
+        for (int from = 0; from < length; from++) {
+            boolean comes = from >= line;
+            int onto = wider + (comes ? line - 1 - (from - line) : from);
+            int partner = 2 * line - 1 - from;
+            boolean alone = partner < 0 || partner >= length;
+            int high = alone || comes == (how == 1) ? 0 : 1;
+            columns.does("place 0 " + from + " = " + onto + "; high 0 " + from + " = " + high);
+            columns.does("place 0 " + (12 + from) + " = " + (24 + onto) + "; high 0 " + (12 + from) + " = " + high);
+            rows.does("place 0 " + 12 * from + " = " + 24 * onto + "; high 0 " + 12 * from + " = " + high);
+            rows.does("place 0 " + (12 * from + 1) + " = " + (24 * onto + 1) + "; high 0 " + (12 * from + 1) + " = " + high);
+        }
+        int most = Math.max(line, length - line);
+        columns.does("about 0 3 = 2; about 0 4 = " + most + "; about 0 9 = " + 2 * most);
+        rows.does("about 0 4 = 2; about 0 3 = " + most + "; about 0 9 = " + 2 * most);
+    }
+
+    private static void everySquare() {
+        for (int length = 2; length <= 12; length++) {
+            for (int how = 0; how <= 1; how++) {
+                Run run = document.says("the PLACE of row r and column c, c greater than r, comes onto that of row c and column r");
+                run.does("cloth " + length + " " + length + " = 0; fold 0 2 0 " + how + " = 1");
+                for (int cell = 0; cell < length * length; cell++) {
+                    int row = cell / length;
+                    int column = cell % length;
+                    int place = 24 * Math.max(row, column) + Math.min(row, column);
+                    int high = row == column || column > row == (how == 1) ? 0 : 1;
+                    run.does("place 0 " + (12 * row + column) + " = " + place + "; high 0 " + (12 * row + column) + " = " + high);
+                }
+                run.does("about 0 3 = " + length + "; about 0 4 = " + length + "; about 0 9 = " + length * (length + 1) / 2);
+            }
+        }
+    }
+
+    private static final String[] FOLDED = {"fold 0 0 5 0 = 1", "fold 0 0 2 1 = 1; fold 0 1 6 0 = 2; fold 0 0 3 1 = 3",
+        "fold 0 2 0 0 = 1; fold 0 0 4 0 = 2; fold 0 1 3 1 = 3", "fold 0 1 7 1 = 1; fold 0 0 7 0 = 2; fold 0 2 0 1 = 3; fold 0 0 2 0 = 4"};
+
+    /** Each cell lies in one place at one height, and no stack has a gap or a cell more. */
+    private static void eachCellOnce() {
+        for (String folds : FOLDED) {
+            Run run = document.says("Folded it is a BUNDLE: PLACES in rows and columns, at each a STACK of CELLS, the lowest first")
+                .does("cloth 12 12 = 0;" + folds);
+            int[] sizes = new int[24 * 12];
+            for (int cell = 0; cell < 144; cell++) {
+                int place = run.answerOf("place 0 " + cell);
+                run.would("stack 0 " + place + " " + run.answerOf("high 0 " + cell) + " = " + cell);
+                sizes[place]++;
+            }
+            int rows = run.answerOf("about 0 3");
+            int columns = run.answerOf("about 0 4");
+            for (int place = 0; place < sizes.length; place++) {
+                boolean has = place / 24 < rows && place % 24 < columns;
+                run.would("stack 0 " + place + " " + sizes[place] + " = " + (has ? "NOT" : "NONE"));
+            }
+        }
     }
 
     private static void turnedOver() {
@@ -122,7 +198,7 @@ public final class FoldEdgesTest {
     }
 
     private static void slantsThatCannotBe() {
-        String sentence = "the BUNDLE must have as many rows as columns";
+        String sentence = "kind 2: a SLANT: the BUNDLE must have as many rows as columns";
         document.says(sentence).does("cloth 3 4 = 0").refuses("fold 0 2 0 0 = STATE; fold 0 2 0 1 = STATE")
             .does("fold 0 0 3 0 = 1; fold 0 2 0 0 = 2");
         document.says(sentence).does("cloth 4 3 = 0").refuses("fold 0 2 0 0 = STATE; fold 0 2 0 1 = STATE")
@@ -130,7 +206,7 @@ public final class FoldEdgesTest {
         document.says(sentence).does("cloth 4 4 = 0; fold 0 0 2 0 = 1").refuses("fold 0 2 0 0 = STATE");
         document.says(sentence).does("cloth 12 12 = 0").would("fold 0 2 0 0 = 1").does("fold 0 1 11 0 = 1")
             .refuses("fold 0 2 0 0 = STATE");
-        sentence = "STATE: a SLANT of a BUNDLE that is not square, or of one ROW";
+        sentence = "NONE (no such line); STATE: a SLANT of a BUNDLE that is not square, or of one ROW";
         document.promises(4, sentence).does("cloth 1 1 = 0").refuses("fold 0 2 0 0 = STATE; fold 0 2 0 1 = STATE");
         document.promises(4, sentence).does("cloth 1 2 = 0").refuses("fold 0 2 0 0 = STATE")
             .does("fold 0 0 1 0 = 1").refuses("fold 0 2 0 0 = STATE");
@@ -157,7 +233,8 @@ public final class FoldEdgesTest {
     }
 
     private static void leftSmaller() {
-        String sentence = "those at the beginning and at the end that have no CELL at all are left away";
+        String sentence = "The BUNDLE's rows and columns are then just as many as are needed: "
+            + "those at the beginning and at the end that have no CELL at all are left away.";
         document.says(sentence).does("cloth 1 12 = 0; fold 0 0 11 0 = 1; about 0 4 = 11; stack 0 11 0 = NONE")
             .stackIs(0, 0).stackIs(10, 10, 11);
         document.says(sentence).does("cloth 12 1 = 0; fold 0 1 11 0 = 1; about 0 3 = 11; stack 0 264 0 = NONE")
@@ -246,7 +323,7 @@ public final class FoldEdgesTest {
     }
 
     private static void about() {
-        String sentence = "0 ROWS, 1 COLUMNS, 2 FOLDS, 3 rows of the BUNDLE, 4 its columns, 5 the most CELLS in a STACK, "
+        String sentence = "Of a CLOTH: 0 ROWS, 1 COLUMNS, 2 FOLDS, 3 rows of the BUNDLE, 4 its columns, 5 the most CELLS in a STACK, "
             + "6 SOAKED (1, 0), 7 TORN, 8 BOARDS, 9 PLACES that have CELLS. NONE.";
         aboutIs(document.promises(6, sentence).does("cloth 1 1 = 0").within("about 0 _", 0, 9), 1, 1, 0, 1, 1, 1, 0, 0, 0, 1);
         aboutIs(document.promises(6, sentence).does("cloth 12 12 = 0"), 12, 12, 0, 12, 12, 1, 0, 0, 0, 144);
@@ -281,7 +358,7 @@ public final class FoldEdgesTest {
         run.does("stack 0 264 0 = 132; stack 0 275 0 = 143; stack 0 275 1 = NOT; stack 0 275 MAX = NOT");
         run.asks("stack 0 12 0 = NONE; stack 0 23 0 = NONE; stack 0 276 0 = NONE; stack 0 288 0 = NONE");
         run.asks("stack 0 -1 0 = NONE; stack 0 -24 0 = NONE; stack 0 MIN 0 = NONE; stack 0 MAX 0 = NONE");
-        run = document.promises(7, "a PLACE (24 times its row in the BUNDLE, and its column)").does("cloth 3 4 = 0");
+        run = document.promises(7, "The CELL (12 times its row, and its column) in a PLACE (24 times its row in the BUNDLE, and its column)").does("cloth 3 4 = 0");
         run.does("stack 0 3 0 = 3; stack 0 4 0 = NONE; stack 0 48 0 = 24; stack 0 51 0 = 27; stack 0 72 0 = NONE");
         run.does("fold 0 0 3 0 = 1; stack 0 2 1 = 3; stack 0 3 0 = NONE; fold 0 1 2 0 = 2; stack 0 48 0 = NONE");
     }
@@ -304,9 +381,10 @@ public final class FoldEdgesTest {
             .does("fold 0 0 1 1 = 3; fold 0 0 1 1 = 4; high 0 5 = 0; high 0 6 = 1; high 0 0 = 3; high 0 2 = 11; open 0 = 4; high 0 2 = 0");
     }
 
-    public static void main(String[] args) throws IOException {
-        document = new Document(CHECKS);
+    static void all(Document quoted) {
+        document = quoted;
         aNewObject();
+        numbersOfCloths();
         sixCloths();
         aSeventhCloth();
         depthAtFirst();
@@ -314,6 +392,9 @@ public final class FoldEdgesTest {
         emptyPlaces();
         linesOfColumns();
         linesOfRows();
+        everyLine();
+        everySquare();
+        eachCellOnce();
         turnedOver();
         valleyAndMountain();
         slants();
@@ -328,8 +409,5 @@ public final class FoldEdgesTest {
         about();
         stacks();
         placesAndHeights();
-        document.quotesAll(1, 2);
-        document.quotesAll(4, 9);
-        CHECKS.end();
     }
 }

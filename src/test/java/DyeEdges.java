@@ -1,8 +1,5 @@
-import java.io.IOException;
-
 /** The edges of rules, boards, reach and baths (promises 3 and 10 to 16), sentence by sentence. */
-public final class DyeEdgesTest {
-    private static final Checks CHECKS = new Checks();
+final class DyeEdges {
     private static Document document;
 
     /** A bundle of 3 by 3 with 24 cells in the middle and 8, 3, 6 and 16 above, left, right and below. */
@@ -34,7 +31,7 @@ public final class DyeEdgesTest {
     }
 
     private static void sixBoards() {
-        Run run = document.says("(at most 6 at once, they may meet)").does("cloth 2 2 = 0");
+        Run run = document.says("BOARDS: rectangles of PLACES of the BUNDLE (at most 6 at once, they may meet)").does("cloth 2 2 = 0");
         for (int i = 1; i <= 6; i++) {
             run.does("board 0 " + (i % 2 == 0 ? "1 1" : "0 0") + " = " + i);
         }
@@ -50,7 +47,7 @@ public final class DyeEdgesTest {
     }
 
     private static void spansOfBoards() {
-        String sentence = "rows: 24 times the first row, and the last one; columns likewise (of the BUNDLE). NONE, FULL.";
+        String sentence = "A BOARD comes on: how many there are. rows: 24 times the first row, and the last one; columns likewise (of the BUNDLE). NONE, FULL.";
         for (String pattern : new String[] {"board 0 _ 0", "board 0 0 _"}) {
             Run greatest = document.promises(10, sentence).does("cloth 12 12 = 0");
             spans(greatest, pattern, new int[] {0, 11, 25, 35, 275}, new int[] {12, 23, 24, 49, 36, 274, 276, 287, 288, 299});
@@ -131,7 +128,7 @@ public final class DyeEdgesTest {
     }
 
     private static void layers() {
-        Run run = document.says("to the CELL above or below in its STACK: LAYER minutes (1 .. 9, told; 3 at first)");
+        Run run = document.says("and go on: to the CELL above or below in its STACK: LAYER minutes (1 .. 9, told; 3 at first)");
         run.does(DEEP + FOUR_BOARDS);
         for (int layer : new int[] {3, 1, 9}) {
             run.does("rule 0 " + layer);
@@ -163,6 +160,25 @@ public final class DyeEdgesTest {
             run.does(shut[i]);
         }
         reachIs(run, 25, 2, "19");
+    }
+
+    /** Dye comes into the middle from above, from below, or from a side and on by layers: whatever is sooner. */
+    private static void leastSum() {
+        String sentence = "REACH of a CELL in the BUNDLE as it is: minutes till dye comes there: the least sum over ways that";
+        for (int layer = 1; layer <= 9; layer++) {
+            for (int side = 1; side <= 9; side++) {
+                Run run = document.says(sentence).does(DEEP + "rule 0 " + layer + "; rule 1 " + side);
+                for (int high = 0; high < 24; high++) {
+                    int fromFaces = 1 + layer * Math.min(high, 23 - high);
+                    int fromSides = 1 + side + layer * Math.max(0, high - 15);
+                    reachIs(run, 25, high, "" + Math.min(fromFaces, fromSides));
+                }
+            }
+        }
+        Run run = document.says(sentence).does(DEEP);
+        int inner = run.answerOf("stack 0 25 19");
+        run.does("reach 0 " + inner + " = 13; board 0 25 25 = 1; reach 0 " + inner + " = NEVER; off 0 = 1; reach 0 " + inner + " = 13");
+        run.does("open 0 = 6; reach 0 " + inner + " = 1; fold 0 0 3 0 = 1; reach 0 " + inner + " = 1");
     }
 
     private static void neverIntoShutPlaces() {
@@ -273,8 +289,8 @@ public final class DyeEdgesTest {
         }
     }
 
-    public static void main(String[] args) throws IOException {
-        document = new Document(CHECKS);
+    static void all(Document quoted) {
+        document = quoted;
         rules();
         sixBoards();
         spansOfBoards();
@@ -283,6 +299,7 @@ public final class DyeEdgesTest {
         bareSides();
         layers();
         sides();
+        leastSum();
         neverIntoShutPlaces();
         soakedHalf();
         minutesOfABath();
@@ -290,8 +307,5 @@ public final class DyeEdgesTest {
         fifteenAtMost();
         soakedAndDried();
         depths();
-        document.quotesAll(3, 3);
-        document.quotesAll(10, 16);
-        CHECKS.end();
     }
 }

@@ -1,8 +1,5 @@
-import java.io.IOException;
-
 /** The edges of mirrors, periods, steps, wishes, ways and counts (promises 17 to 26), sentence by sentence. */
-public final class PictureEdgesTest {
-    private static final Checks CHECKS = new Checks();
+final class PictureEdges {
     private static Document document;
 
     private static final String ALL_NONE = "NONE NONE NONE NONE";
@@ -33,7 +30,7 @@ public final class PictureEdgesTest {
         for (int[] size : sizes) {
             oneCellThatDiffers(size[0], size[1]);
         }
-        String sentence = "0 (columns), 1 (rows), 2 (row and column change places; only of as many rows as columns), "
+        String sentence = "MIRRORED: a CLOTH's DEPTHS by kind 0 (columns), 1 (rows), 2 (row and column change places; only of as many rows as columns), "
             + "3 (turned half round): whether they are the same";
         String four = "cloth 3 4 = 0; board 0 0 0 = 1;";
         document.says(sentence).does(four + "board 0 0 75 = 2; bath 0 1 1 = 10")
@@ -63,14 +60,14 @@ public final class PictureEdgesTest {
     }
 
     private static void period() {
-        String sentence = "the least p (1 ..) such that each CELL is as deep as that p further (if there is one)";
+        String sentence = "PERIOD by columns (0) or rows (1): the least p (1 ..) such that each CELL is as deep as that p further (if there is one)";
         document.says(sentence).does("cloth 1 1 = 0; period 0 0 = 1; period 0 1 = 1; bath 0 1 1 = 1; period 0 0 = 1");
         document.says(sentence).does("cloth 12 12 = 0; period 0 0 = 1; period 0 1 = 1");
         document.says(sentence).does("cloth 2 7 = 0; board 0 1 0 = 1; board 0 1 75 = 2; board 0 1 150 = 3; bath 0 1 1 = 8")
             .does("period 0 0 = 3; period 0 1 = 1");
         document.says(sentence).does("cloth 7 2 = 0; board 0 0 1 = 1; board 0 75 1 = 2; board 0 150 1 = 3; bath 0 1 1 = 8")
             .does("period 0 1 = 3; period 0 0 = 1");
-        sentence = "as many as there are, if no lesser one is. NONE.";
+        sentence = "PERIOD by columns (0), rows (1): as many as there are, if no lesser one is. NONE.";
         document.promises(18, sentence).does(stairs() + "depth 0 11 = 11; depth 0 12 = 0; period 0 0 = 12; period 0 1 = 1")
             .does("board 0 1 10 = 1; discharge 0 1 15 = 2; off 0 = 1; depth 0 11 = 0; period 0 0 = 11; period 0 1 = 1")
             .does("board 0 0 11 = 1; bath 0 1 1 = 12; period 0 1 = 2; period 0 0 = 11");
@@ -82,10 +79,10 @@ public final class PictureEdgesTest {
     }
 
     private static void steps() {
-        document.says("the sum of the differences of DEPTHS, without sign; if they are not of like size none")
+        document.says("STEPS of two CLOTHS of like rows and columns: the sum of the differences of DEPTHS, without sign; if they are not of like size none")
             .does("cloth 12 12 = 0; cloth 12 12 = 1; steps 0 1 = 0; bath 0 1 15 = 144; steps 0 1 = 2160; steps 1 0 = 2160")
             .does("steps 0 0 = 0; bath 1 1 1 = 144; steps 0 1 = 2016; board 1 0 0 = 1; discharge 1 1 1 = 143; steps 1 0 = 2159");
-        Run run = document.promises(19, "NONE; STATE: they are not of like size.");
+        Run run = document.promises(19, "STEPS of two CLOTHS. NONE; STATE: they are not of like size.");
         run.does("cloth 2 3 = 0; cloth 3 2 = 1; cloth 2 4 = 2; cloth 1 3 = 3; cloth 2 3 = 4; steps 0 4 = 0; steps 4 0 = 0");
         run.refuses("steps 0 1 = STATE; steps 1 0 = STATE; steps 0 2 = STATE; steps 0 3 = STATE; steps 3 0 = STATE");
         run.does("fold 2 0 3 0 = 1; about 2 4 = 3; steps 0 2 = STATE; fold 0 0 1 0 = 1; steps 0 4 = 0");
@@ -94,7 +91,7 @@ public final class PictureEdgesTest {
     }
 
     private static void alike() {
-        Run run = document.says("two CELLS of a CLOTH, as it is folded now, are ALIKE if their REACH is the same (NEVER is as NEVER)");
+        Run run = document.says("BY FOLDS ALIKE: two CELLS of a CLOTH, as it is folded now, are ALIKE if their REACH is the same (NEVER is as NEVER)");
         run.does("cloth 12 12 = 0; fold 0 0 6 0 = 1; fold 0 1 6 0 = 2; fold 0 0 3 0 = 3; fold 0 1 3 0 = 4; rule 0 1 = 3; rule 1 9 = 2");
         int[] middle = new int[16];
         for (int high = 0; high < 16; high++) {
@@ -118,7 +115,7 @@ public final class PictureEdgesTest {
     }
 
     private static void wishes() {
-        document.says("a small CLOTH (rows, columns 1 .. 4) and for each CELL whether it shall be DARK")
+        document.says("WISH: a small CLOTH (rows, columns 1 .. 4) and for each CELL whether it shall be DARK")
             .within("wish _ 1", 1, 4).within("wish 1 _", 1, 4).within("wish _ 4", 1, 4).within("wish 4 _", 1, 4)
             .does("dark 0 1 = NONE; wish 2 3 = 1; dark 14 1 = 0").within("wish _ 1", 1, 4).within("wish 1 _", 1, 4)
             .does("count 4 = 1; dark 14 1 = 1");
@@ -197,6 +194,29 @@ public final class PictureEdgesTest {
         }
     }
 
+    /** Every wish of some sizes: if there is a way, it makes just the wish of a real cloth. WayTest has those without. */
+    private static void everyWayIsReal() {
+        document.says("A WAY: FOLDS f1, f2 (0, 1 or 2 of them), then no BOARD or one (a rectangle of PLACES of the BUNDLE then), "
+            + "then one BATH of told minutes and strength (LAYER, SIDE, FADE as they are, not SOAKED). "
+            + "DARK is a CELL with DEPTH above 0 then.");
+        for (int[] size : new int[][] {{1, 1}, {1, 4}, {4, 1}, {2, 2}, {2, 3}, {3, 2}, {2, 4}, {3, 3}}) {
+            for (int wish = 0; wish < 1 << size[0] * size[1]; wish++) {
+                StringBuilder rows = new StringBuilder();
+                for (int cell = 0; cell < size[0] * size[1]; cell++) {
+                    rows.append(cell > 0 && cell % size[1] == 0 ? " " : "").append((wish >> cell & 1) == 1 ? '#' : '.');
+                }
+                Run run = document.says("It MEETS the WISH if just the CELLS that shall be are DARK.").does(wish(rows.toString()));
+                int folds = run.answerOf("way 2 3");
+                if (folds >= 0) {
+                    run.does("nearly 2 3 = 0");
+                    followTheWay(rows.toString(), folds, "2 3");
+                } else {
+                    run.does("way 2 3 = NOT");
+                }
+            }
+        }
+    }
+
     private static int told(Run run, int i, int what) {
         return run.answerOf("told " + i + " " + what);
     }
@@ -240,7 +260,7 @@ public final class PictureEdgesTest {
     }
 
     private static void noWay() {
-        document.promises(23, "how many FOLDS it has; NOT. NONE: no WISH, too.")
+        document.promises(23, "FIRST WAY by a BATH: how many FOLDS it has; NOT. NONE: no WISH, too.")
             .refuses("way 1 1 = NONE; way 99 15 = NONE; way 0 0 = NONE").does("wish 1 3 = 1; dark 1 1 = 0")
             .refuses("way 1 1 = NOT; way 99 15 = NOT; way 0 1 = NONE; way 100 1 = NONE; way 1 0 = NONE; way 1 16 = NONE")
             .within("way _ 1", 1, 99).within("way 1 _", 1, 15).within("way _ 15", 1, 99).within("way 99 _", 1, 15)
@@ -257,11 +277,11 @@ public final class PictureEdgesTest {
     }
 
     private static void nearly() {
-        document.promises(24, "0 if some WAY MEETS it. NONE: no WISH, too.")
+        document.promises(24, "NEARLY by a BATH: 0 if some WAY MEETS it. NONE: no WISH, too.")
             .refuses("nearly 1 1 = NONE; nearly 99 15 = NONE; nearly 0 0 = NONE").does("wish 1 1 = 1")
             .asks("nearly 1 1 = 0; nearly 99 15 = 0")
             .within("nearly _ 1", 1, 99).within("nearly 1 _", 1, 15).within("nearly _ 15", 1, 99).within("nearly 99 _", 1, 15);
-        String sentence = "if no WAY MEETS it: the least number of CELLS in which a WAY differs.";
+        String sentence = "NEARLY: if no WAY MEETS it: the least number of CELLS in which a WAY differs.";
         document.says(sentence).does(wish(".#.") + "way 1 1 = NOT").asks("nearly 1 1 = 1; nearly 99 15 = 1");
         document.says(sentence).does(wish(".#.#") + "way 1 1 = NOT").asks("nearly 1 1 = 1");
         document.says(sentence).does(wish("#... ...# #... ....") + "way 1 1 = NOT").asks("nearly 1 1 = 2");
@@ -289,7 +309,7 @@ public final class PictureEdgesTest {
     }
 
     private static void count() {
-        String sentence = "0 CLOTHS, 1 CELLS of all, 2 DEPTHS of all together, 3 TORN of all, 4 CELLS that shall be DARK. NONE.";
+        String sentence = "How many: 0 CLOTHS, 1 CELLS of all, 2 DEPTHS of all together, 3 TORN of all, 4 CELLS that shall be DARK. NONE.";
         document.promises(26, sentence).within("count _", 0, 4);
         Run run = document.promises(26, sentence);
         for (int i = 0; i < 6; i++) {
@@ -302,8 +322,8 @@ public final class PictureEdgesTest {
             .does("bath 1 1 2 = 7; count 2 = 38; discharge 0 1 1 = 6; count 2 = 32; count 3 = 0; count 4 = 0");
     }
 
-    public static void main(String[] args) throws IOException {
-        document = new Document(CHECKS);
+    static void all(Document quoted) {
+        document = quoted;
         mirrored();
         period();
         steps();
@@ -311,12 +331,11 @@ public final class PictureEdgesTest {
         wishes();
         darkCells();
         firstWays();
+        everyWayIsReal();
         wishAfterWish();
         noWay();
         nearly();
         toldOfTheLatest();
         count();
-        document.quotesAll(17, 26);
-        CHECKS.end();
     }
 }

@@ -181,6 +181,24 @@ final class DyeEdges {
         run.does("open 0 = 6; reach 0 " + inner + " = 1; fold 0 0 3 0 = 1; reach 0 " + inner + " = 1");
     }
 
+    /** Four cells in each place of a bundle of 12 by 3, and of 3 by 12: dye comes between them at every inner place. */
+    private static void everyInnerPlace() {
+        String sentence = "the least sum over ways that begin at a PLACE that is not SHUT";
+        Run tall = document.says(sentence).does("cloth 12 12 = 0; fold 0 0 6 0 = 1; fold 0 0 3 0 = 2; about 0 3 = 12; about 0 4 = 3");
+        Run wide = document.says(sentence).does("cloth 12 12 = 0; fold 0 1 6 0 = 1; fold 0 1 3 0 = 2; about 0 3 = 3; about 0 4 = 12");
+        for (String side : new String[] {"2 = 2", "9 = 2"}) {
+            tall.does("rule 1 " + side);
+            wide.does("rule 1 " + side);
+            for (int i = 1; i <= 10; i++) {
+                for (int high = 1; high <= 2; high++) {
+                    String due = side.startsWith("2") ? "3" : "4";
+                    reachIs(tall, 24 * i + 1, high, due);
+                    reachIs(wide, 24 + i, high, due);
+                }
+            }
+        }
+    }
+
     private static void neverIntoShutPlaces() {
         Run run = document.says("never into a SHUT PLACE").does(DEEP + FOUR_BOARDS + "rule 0 9 = 3; rule 1 1 = 2");
         reachIs(run, 25, 1, "10");
@@ -300,6 +318,7 @@ final class DyeEdges {
         layers();
         sides();
         leastSum();
+        everyInnerPlace();
         neverIntoShutPlaces();
         soakedHalf();
         minutesOfABath();

@@ -271,6 +271,20 @@ final class FoldEdges {
             .does("fold 0 0 2 0 = 5; about 0 5 = 21").refuses("fold 0 2 0 0 = THICK; fold 0 2 0 1 = THICK");
     }
 
+    /** The stack that would be too great lies far from the first row (column) of a long and narrow bundle. */
+    private static void farStacks() {
+        String thick = "a STACK would have more than 24 CELLS (THICK)";
+        document.says(thick).does("cloth 12 5 = 0; fold 0 0 1 0 = 1; fold 0 0 2 0 = 2; fold 0 0 1 0 = 3; fold 0 1 9 0 = 4; fold 0 1 7 0 = 5")
+            .does("about 0 3 = 7; about 0 4 = 1; about 0 5 = 20").refuses("fold 0 1 6 0 = THICK; fold 0 1 6 1 = THICK");
+        document.says(thick).does("cloth 5 12 = 0; fold 0 1 1 0 = 1; fold 0 1 2 0 = 2; fold 0 1 1 0 = 3; fold 0 0 9 0 = 4; fold 0 0 7 0 = 5")
+            .does("about 0 3 = 1; about 0 4 = 7; about 0 5 = 20").refuses("fold 0 0 6 0 = THICK; fold 0 0 6 1 = THICK");
+        String tears = "the CLOTH is SOAKED and a STACK would have more than 6";
+        document.says(tears).does("cloth 12 1 = 0; fold 0 1 9 0 = 1; fold 0 1 7 0 = 2; bath 0 1 1 = 12; about 0 5 = 4")
+            .tears("fold 0 1 6 0", 0).tears("fold 0 1 6 1", 0).does("fold 0 1 5 0 = 3; about 0 5 = 5");
+        document.says(tears).does("cloth 1 12 = 0; fold 0 0 9 0 = 1; fold 0 0 7 0 = 2; bath 0 1 1 = 12; about 0 5 = 4")
+            .tears("fold 0 0 6 0", 0).tears("fold 0 0 6 1", 0).does("fold 0 0 5 0 = 3; about 0 5 = 5");
+    }
+
     private static void tearing() {
         String sentence = "the CLOTH is SOAKED and a STACK would have more than 6 (TEARS: not done, but TORN is one more)";
         document.says(sentence).does("cloth 1 7 = 0; bath 0 1 1 = 7; fold 0 0 4 0 = 1; fold 0 0 2 0 = 2; about 0 7 = 0")
@@ -402,6 +416,7 @@ final class FoldEdges {
         widerAtTheBeginning();
         leftSmaller();
         thick();
+        farStacks();
         tearing();
         tearingWhatOnlyMoves();
         opened();

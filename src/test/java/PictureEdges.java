@@ -104,6 +104,12 @@ final class PictureEdges {
             run.would("bath 0 1 1; alike 0 " + middle[high] + " " + middle[1] + " = " + (Math.min(high, 15 - high) <= 1 ? 1 : 0));
             run.would("open 0 = 4; alike 0 " + middle[high] + " " + middle[1] + " = 1");
         }
+        for (int rules = 0; rules < 81; rules++) {
+            int layer = 1 + rules / 9;
+            int side = 1 + rules % 9;
+            int same = Math.min(layer, side) == Math.min(2 * layer, side) ? 1 : 0;
+            run.would("rule 0 " + layer + "; rule 1 " + side + "; alike 0 " + middle[1] + " " + middle[2] + " = " + same);
+        }
         run.does("board 0 25 25 = 1").would("alike 0 " + middle[0] + " " + middle[7] + " = 1");
         run.would("alike 0 " + middle[0] + " " + run.answerOf("stack 0 0 0") + " = 0");
         run.would("alike 0 " + run.answerOf("stack 0 0 0") + " " + middle[0] + " = 0");
